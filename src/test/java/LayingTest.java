@@ -161,6 +161,14 @@ public final class LayingTest {
         due.is("5: nothing is known", maps.count(4), 0);
         due.is("5: begin() behind undo", maps.begin(), 28);
 
+        LiarMaps laid = new LiarMaps();
+        laid.road(0, 1);
+        laid.treasure(5);
+        laid.begin();
+        laid.undo();
+        due.is("5: the road is there behind undo", laid.knows(0, 0, 1), 1);
+        due.is("5: the treasure, too", laid.treasure(0), 5);
+
         LiarMaps ring = new LiarMaps();
         for (int place = 0; place < 8; place++) {
             ring.road(place, (place + 1) % 8);

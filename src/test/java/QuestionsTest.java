@@ -170,6 +170,9 @@ public final class QuestionsTest {
         for (int rank = 0; rank < order.length; rank++) {
             due.is("14: dug(" + rank + ")", maps.dug(rank), order[rank]);
         }
+        due.is("13: told of 6, twice", maps.place(6, 3), 2);
+        due.is("13: told of 0", maps.place(0, 3), 4);
+        due.is("13: told of 1", maps.place(1, 3), 3);
         due.is("14: dug(4)", maps.dug(4), LiarMaps.NO_SUCH);
         due.is("14: dug(-1)", maps.dug(-1), LiarMaps.NO_SUCH);
         due.is("14: dug(lowest int)", maps.dug(Integer.MIN_VALUE), LiarMaps.NO_SUCH);

@@ -9,6 +9,7 @@ public final class SavingTest {
         slots();
         wrongSlots();
         savedGames();
+        twoWays();
         restoringIsAChange();
         due.end("SavingTest");
     }
@@ -199,6 +200,30 @@ public final class SavingTest {
         maps.restore(0);
         due.is("26: the pad is not restored", maps.count(12), 1);
         due.is("26: the history is not restored", maps.count(13), 6);
+    }
+
+    /** Two games that go on from the same one in two ways. */
+    private static void twoWays() {
+        LiarMaps maps = TurnsTest.ring();
+        maps.save(0);
+        maps.dig(2);
+        maps.claim(0, 1, 0);
+        maps.save(1);
+        long one = look(maps);
+        maps.restore(0);
+        maps.dig(7);
+        maps.claim(0, 1, 1);
+        maps.claim(5, 6, 0);
+        long other = look(maps);
+        maps.restore(1);
+        due.is("26: the first way", look(maps), one);
+        due.is("26: where was dug", maps.dug(0), 2);
+        due.is("26: who says that 0-1 is not there", maps.ofRoad(0, 1, 5), 2);
+        due.is("26: nobody claims anything of 5-6", maps.ofRoad(5, 6, 5), 0);
+        maps.undo();
+        due.is("24: the second way", look(maps), other);
+        due.is("24: where was dug", maps.dug(0), 7);
+        due.is("24: who says that 5-6 is not there", maps.ofRoad(5, 6, 5), 4);
     }
 
     private static void restoringIsAChange() {
