@@ -11,6 +11,21 @@ final class Due {
         }
     }
 
+    /** Compares rows of answers, and tells the first one that differs. */
+    void same(String call, String got, String want) {
+        asked++;
+        if (!got.equals(want)) {
+            wrong++;
+            String[] gotRows = got.split("\n");
+            String[] wantRows = want.split("\n");
+            int row = 0;
+            while (row < gotRows.length - 1 && row < wantRows.length - 1 && gotRows[row].equals(wantRows[row])) {
+                row++;
+            }
+            System.out.println(call + ": " + gotRows[row] + ", due is " + wantRows[row]);
+        }
+    }
+
     void end(String test) {
         System.out.println(test + ": " + asked + " answers, " + wrong + " not as due");
         if (wrong != 0 || asked == 0) {
@@ -39,5 +54,12 @@ final class Due {
         for (int turn = 0; turn < turns; turn++) {
             maps.pass();
         }
+    }
+
+    /** Reveals a road by a claim that it is there and a check of it, which take two turns. */
+    static int reveal(LiarMaps maps, int place, int other) {
+        int claimant = maps.count(1);
+        maps.claim(place, other, 1);
+        return maps.check(claimant, place, other);
     }
 }

@@ -7,6 +7,7 @@ public final class QuestionsTest {
         knowing();
         players();
         shownLies();
+        liesThatNobodyChecked();
         places();
         diggings();
         counts();
@@ -115,6 +116,20 @@ public final class QuestionsTest {
         due.is("15: two are shown", maps.count(6), 2);
         maps.claim(4, 5, 1);
         due.is("15: a lie that is shown at once", maps.count(6), 3);
+    }
+
+    private static void liesThatNobodyChecked() {
+        LiarMaps maps = new LiarMaps();
+        maps.begin();
+        for (int player = 0; player < 3; player++) {
+            maps.claim(player, 7, 1);
+            due.is("15: lies behind that of " + player, maps.count(6), player + 1);
+            due.is("12: it is of " + player, maps.player(player, 2), 1);
+            due.is("12: no check found it", maps.player(player, 3), 0);
+        }
+        due.is("15: no road is revealed", maps.count(7), 0);
+        maps.claim(0, 7, 0);
+        due.is("15: 0 takes it back", maps.count(6), 2);
     }
 
     private static void places() {

@@ -71,24 +71,35 @@ public final class SavingTest {
         due.is("24: undo is none", maps.count(13), 2);
     }
 
+    private static final String[] CHANGES = {
+        "set", "road", "treasure", "begin", "claim", "claim", "check", "dig", "pass", "find"
+    };
+
+    private static LiarMaps behind(int changes) {
+        LiarMaps maps = new LiarMaps();
+        for (int i = 0; i < changes; i++) {
+            change(maps, CHANGES[i]);
+        }
+        return maps;
+    }
+
     /** One of each change, and all that can be asked of before it. */
     private static void everythingIsUndone() {
-        LiarMaps maps = new LiarMaps();
-        String[] changes = {"set", "road", "treasure", "begin", "claim", "claim", "check", "dig", "pass", "find"};
-        long[] before = new long[changes.length];
-        for (int i = 0; i < changes.length; i++) {
-            before[i] = look(maps);
-            change(maps, changes[i]);
-            due.is("24: " + changes[i] + " is seen", look(maps) == before[i] ? 1 : 0, 0);
+        for (int changes = 1; changes <= CHANGES.length; changes++) {
+            String before = Look.state(behind(changes - 1));
+            LiarMaps maps = behind(changes);
+            due.is("24: " + CHANGES[changes - 1] + " is seen", Look.state(maps).equals(before) ? 1 : 0, 0);
             maps.undo();
-            due.is("24: undo() of " + changes[i], look(maps), before[i]);
-            change(maps, changes[i]);
+            due.same("24: undo() of " + CHANGES[changes - 1], Look.state(maps), before);
         }
-        for (int i = changes.length - 1; i >= changes.length - 6; i--) {
-            maps.undo();
-            due.is("24: undo() back to before " + changes[i], look(maps), before[i]);
+        for (int undos = 1; undos <= 6; undos++) {
+            LiarMaps maps = behind(CHANGES.length);
+            for (int undo = 0; undo < undos; undo++) {
+                maps.undo();
+            }
+            due.is("24: " + undos + " undone", maps.count(13), 6 - undos);
+            due.same("24: " + undos + " undone", Look.state(maps), Look.state(behind(CHANGES.length - undos)));
         }
-        due.is("24: no more", maps.undo(), LiarMaps.NOT_POSSIBLE);
     }
 
     private static void change(LiarMaps maps, String change) {
@@ -104,41 +115,6 @@ public final class SavingTest {
             default -> maps.dig(4);
         };
         due.is("24: " + change + " is no error", answer < 0 ? 1 : 0, 0);
-    }
-
-    /** A number made of all that can be asked, but the changes that can be undone. */
-    static long look(LiarMaps maps) {
-        long seen = maps.canBe();
-        for (int what = 0; what < 13; what++) {
-            seen = seen * 31 + maps.count(what);
-        }
-        for (int rank = 0; rank < 5; rank++) {
-            seen = seen * 31 + maps.dug(rank);
-        }
-        for (int player = 0; player < 3; player++) {
-            for (int what = 0; what < 8; what++) {
-                seen = seen * 31 + maps.player(player, what);
-            }
-        }
-        for (int place = 0; place < 8; place++) {
-            for (int what = 0; what < 5; what++) {
-                seen = seen * 31 + maps.place(place, what);
-            }
-            for (int other = place + 1; other < 8; other++) {
-                for (int what = 2; what < 6; what++) {
-                    seen = seen * 31 + maps.ofRoad(place, other, what);
-                }
-                for (int player = 0; player < 3; player++) {
-                    seen = seen * 31 + maps.knows(player, place, other);
-                }
-            }
-        }
-        // Where the treasure is can be asked only by moving it.
-        int at = maps.count(2) == 0 ? maps.treasure(0) : maps.canBe();
-        if (maps.count(2) == 0) {
-            maps.undo();
-        }
-        return seen * 31 + at;
     }
 
     private static void slots() {
@@ -180,48 +156,68 @@ public final class SavingTest {
         due.is("26: one change", maps.count(13), 1);
     }
 
-    private static void savedGames() {
+    private static LiarMaps savedGame() {
         LiarMaps maps = QuestionsTest.row();
         maps.set(LiarMaps.FINE, 9);
         maps.claim(0, 1, 0);
         maps.check(0, 0, 1);
         maps.dig(0);
-        long saved = look(maps);
         due.is("25: save(0) in the game", maps.save(0), 3);
+        return maps;
+    }
+
+    private static LiarMaps playedOn() {
+        LiarMaps maps = savedGame();
         maps.set(LiarMaps.FINE, 10);
         maps.claim(0, 2, 1);
         maps.dig(3);
-        long later = look(maps);
+        return maps;
+    }
+
+    private static void savedGames() {
+        LiarMaps maps = playedOn();
         due.is("26: restore(0)", maps.restore(0), 3);
-        due.is("26: all is as it was saved", look(maps), saved);
-        due.is("24: undo() of restore", maps.undo(), 5);
-        due.is("24: all is as it was before", look(maps), later);
-        maps.put('p');
-        maps.restore(0);
-        due.is("26: the pad is not restored", maps.count(12), 1);
-        due.is("26: the history is not restored", maps.count(13), 6);
+        due.same("26: all is as it was saved", Look.state(maps), Look.state(savedGame()));
+        LiarMaps back = playedOn();
+        back.restore(0);
+        due.is("24: undo() of restore", back.undo(), 5);
+        due.same("24: all is as it was before", Look.state(back), Look.state(playedOn()));
+        back.put('p');
+        back.restore(0);
+        due.is("26: the pad is not restored", back.count(12), 1);
+        LiarMaps full = playedOn();
+        full.restore(0);
+        due.is("26: the history is not restored", full.count(13), 6);
+    }
+
+    private static LiarMaps firstWay(LiarMaps maps) {
+        maps.dig(2);
+        maps.claim(0, 1, 0);
+        return maps;
+    }
+
+    private static LiarMaps secondWay(LiarMaps maps) {
+        maps.dig(7);
+        maps.claim(0, 1, 1);
+        maps.claim(5, 6, 0);
+        return maps;
     }
 
     /** Two games that go on from the same one in two ways. */
     private static void twoWays() {
         LiarMaps maps = TurnsTest.ring();
         maps.save(0);
-        maps.dig(2);
-        maps.claim(0, 1, 0);
+        firstWay(maps);
         maps.save(1);
-        long one = look(maps);
         maps.restore(0);
-        maps.dig(7);
-        maps.claim(0, 1, 1);
-        maps.claim(5, 6, 0);
-        long other = look(maps);
+        secondWay(maps);
         maps.restore(1);
-        due.is("26: the first way", look(maps), one);
+        due.same("26: the first way", Look.state(maps), Look.state(firstWay(TurnsTest.ring())));
         due.is("26: where was dug", maps.dug(0), 2);
         due.is("26: who says that 0-1 is not there", maps.ofRoad(0, 1, 5), 2);
         due.is("26: nobody claims anything of 5-6", maps.ofRoad(5, 6, 5), 0);
         maps.undo();
-        due.is("24: the second way", look(maps), other);
+        due.same("24: the second way", Look.state(maps), Look.state(secondWay(TurnsTest.ring())));
         due.is("24: where was dug", maps.dug(0), 7);
         due.is("24: who says that 5-6 is not there", maps.ofRoad(5, 6, 5), 4);
     }

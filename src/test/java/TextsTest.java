@@ -5,13 +5,19 @@ public final class TextsTest {
     public static void main(String[] args) {
         putting();
         wrongCharacters();
+        eachCodeAtEachPlace();
+        bitsAboveTheEnd();
         aFullPad();
+        justFull();
         wiping();
         faults();
         faultOfEachCharacter();
         carryingOut();
         eachOrder();
+        eachPlaceOfOrders();
+        eachDigitOfChecks();
         orderThatFails();
+        eachErrorOfOrders();
         textsAndUndo();
         due.end("TextsTest");
     }
@@ -51,6 +57,34 @@ public final class TextsTest {
         due.is("20: put of 8 tildes", maps.put(Due.number("~~~~~~~~")), 10);
     }
 
+    private static void eachCodeAtEachPlace() {
+        for (int length = 1; length <= 8; length++) {
+            for (int at = 0; at < length; at++) {
+                for (int code = 1; code < 256; code++) {
+                    LiarMaps maps = new LiarMaps();
+                    long characters = Due.number("bbbbbbbb") >>> 8 * (8 - length);
+                    characters = characters & ~(255L << 8 * at) | (long) code << 8 * at;
+                    boolean right = code >= 33 && code <= 126;
+                    String call = "20: code " + code + " at " + at + " of " + length;
+                    due.is(call, maps.put(characters), right ? length : LiarMaps.BAD_VALUE);
+                    due.is(call + ", the pad", maps.count(12), right ? length : 0);
+                }
+            }
+        }
+    }
+
+    /** 8 bits that are 0 end the characters, so that no bit above them may be 1. */
+    private static void bitsAboveTheEnd() {
+        for (int length = 0; length < 8; length++) {
+            long characters = length == 0 ? 0 : Due.number("pppppppp") >>> 8 * (8 - length);
+            for (int bit = 8 * length + 8; bit < 64; bit++) {
+                LiarMaps maps = new LiarMaps();
+                due.is("20: bit " + bit + " above " + length, maps.put(characters | 1L << bit), LiarMaps.BAD_VALUE);
+                due.is("20: the pad", maps.wipe(), 0);
+            }
+        }
+    }
+
     private static void aFullPad() {
         LiarMaps maps = new LiarMaps();
         for (int times = 1; times <= 9; times++) {
@@ -75,6 +109,27 @@ public final class TextsTest {
         due.is("22: a full one without a fault", maps.fault(), LiarMaps.NONE);
         due.is("23: 40 orders", maps.carryOut(), 40);
         due.is("23: the last one, too", maps.dug(0), 7);
+    }
+
+    /** From each length that a pad of whole puts can have to 80, and one beyond. */
+    private static void justFull() {
+        for (int length = 72; length <= 80; length++) {
+            for (int more = 1; more <= 8; more++) {
+                LiarMaps maps = new LiarMaps();
+                for (int times = 0; times < 9; times++) {
+                    maps.put(Due.number("p;p;p;p;"));
+                }
+                Due.type(maps, "p;p;p;p;".substring(0, length - 72));
+                String call = "20: " + more + " more at " + length;
+                boolean fits = length + more <= 80;
+                int then = fits ? length + more : length;
+                due.is(call, maps.put(Due.number("~~~~~~~~") >>> 8 * (8 - more)), fits ? then : LiarMaps.TOO_MANY);
+                due.is(call + ", count(12)", maps.count(12), then);
+                int whole = length % 2 == 1 ? LiarMaps.NONE : length;
+                due.is(call + ", fault()", maps.fault(), fits ? length : whole);
+                due.is(call + ", wipe()", maps.wipe(), then);
+            }
+        }
     }
 
     private static void wiping() {
@@ -180,6 +235,86 @@ public final class TextsTest {
         Due.type(maps, "p;p");
         due.is("23: passes", maps.carryOut(), 2);
         due.is("23: the turn of 2", maps.count(1), 2);
+    }
+
+    /** Each place letter at each place of each order. */
+    private static void eachPlaceOfOrders() {
+        for (int a = 0; a < 8; a++) {
+            String one = "" + (char) ('a' + a);
+            LiarMaps maps = TurnsTest.ring();
+            Due.type(maps, "d" + one);
+            due.is("23: d" + one, maps.carryOut(), 1);
+            due.is("14: dug at " + one, maps.dug(0), a);
+            LiarMaps ahead = new LiarMaps();
+            Due.type(ahead, "t" + one);
+            due.is("23: t" + one, ahead.carryOut(), 1);
+            due.is("4: the treasure is at " + one, ahead.treasure(0), a);
+            for (int b = 0; b < 8; b++) {
+                eachPairOfOrders(a, b, one + (char) ('a' + b));
+            }
+        }
+    }
+
+    private static void eachPairOfOrders(int a, int b, String ends) {
+        int done = a == b ? 0 : 1;
+        LiarMaps ahead = new LiarMaps();
+        Due.type(ahead, "r" + ends);
+        due.is("23: r" + ends, ahead.carryOut(), done);
+        due.is("23: roads of r" + ends, ahead.save(0), done);
+        LiarMaps maps = TurnsTest.ring();
+        Due.type(maps, "+" + ends);
+        due.is("23: +" + ends, maps.carryOut(), done);
+        Due.type(maps, "-" + ends);
+        due.is("23: -" + ends, maps.carryOut(), done);
+        due.is("23: claims", maps.player(0, 1) + 10 * maps.player(1, 1), 11 * done);
+        Due.type(maps, "c0" + ends);
+        due.is("23: c0" + ends, maps.carryOut(), done);
+        if (a != b) {
+            due.is("3: laid by r" + ends, ahead.knows(ahead.ofRoad(a, b, 1), a, b), 1);
+            due.is("6: claimed by +" + ends, maps.ofRoad(a, b, 4), 1);
+            due.is("6: claimed by -" + ends, maps.ofRoad(a, b, 5), 2);
+            due.is("7: revealed by c0" + ends, maps.ofRoad(a, b, 2), 1);
+        }
+    }
+
+    private static void eachDigitOfChecks() {
+        for (int turn = 0; turn < 3; turn++) {
+            for (int digit = 0; digit < 10; digit++) {
+                LiarMaps maps = TurnsTest.ring();
+                for (int player = 0; player < 3; player++) {
+                    maps.claim(0, 2, player == 1 ? 0 : 1);
+                }
+                Due.passTurns(maps, turn);
+                String text = "c" + digit + "ac";
+                Due.type(maps, text + ";p");
+                boolean right = digit < 3 && digit != turn;
+                due.is("23: " + text + " in the turn of " + turn, maps.carryOut(), right ? 2 : 0);
+                due.is("7: checks of " + turn, maps.player(turn, 4), right ? 1 : 0);
+                due.is("7: that found a lie", maps.player(turn, 5), right && digit != 1 ? 1 : 0);
+                due.is("23: turns", maps.count(0), 3 + turn + (right ? 2 : 0));
+            }
+        }
+    }
+
+    /** Each error that an order can return, behind one that returns none and ahead of another. */
+    private static void eachErrorOfOrders() {
+        String[] ahead = {"raa", "+ab", "-ab", "+cc", "c1ab", "c0ab", "c3ab", "da", "p"};
+        for (String order : ahead) {
+            LiarMaps maps = new LiarMaps();
+            Due.type(maps, "rab;" + order + ";rcd");
+            due.is("23: rab ahead of " + order, maps.carryOut(), 1);
+            due.is("23: no order behind " + order, maps.save(0), 1);
+            due.is("23: not begun by " + order, maps.count(2), 0);
+        }
+        // The turn of 0: 1 claims a-c, 2 claims b-d, which is revealed, and too few coins are there to dig.
+        String[] begun = {"rab", "raa", "ta", "b", "+aa", "-hh", "c0ac", "c1aa", "c1ab", "c2ac", "c2bd", "c9ac", "da"};
+        for (String order : begun) {
+            LiarMaps maps = TurnsTest.ring();
+            maps.set(LiarMaps.DIG, 50);
+            Due.type(maps, "p;+ac;-bd;c2bd;p;p;" + order + ";p");
+            due.is("23: six orders ahead of " + order, maps.carryOut(), 6);
+            due.is("23: no order behind " + order, maps.count(0), 6);
+        }
     }
 
     private static void orderThatFails() {
